@@ -30,7 +30,26 @@ public final class ModelTest {
             compare(y, model, "round " + round + " behind acts " + words(model.facets) + " " + model.order, random);
             compare(x, model, "round " + round + " acted " + words(model.facets) + " " + model.order, random);
         }
+        // Shelled with beginnings that go no further; shelled, but not falling apart; not shelled, with all links shelled.
+        whole("abe bde bdf def ace abf adf cef acd", random);
+        whole("acd ade bde bef bdf cdf bcf ace acf abe", random);
+        whole("abe abf acd acf ade bcd bce bdf cef def", random);
         CHECKS.end("ModelTest");
+    }
+
+    private static void whole(String words, Random random) {
+        List<Integer> facets = new ArrayList<>();
+        for (String word : words.split(" ")) {
+            int set = 0;
+            for (char letter : word.toCharArray()) {
+                set |= 1 << letter - 'a';
+            }
+            facets.add(set);
+        }
+        Model model = new Model(6, 3, facets);
+        ShellPeel x = Checks.made(6, 3, words);
+        compare(x, model, words, random);
+        compareOrders(x, model, words);
     }
 
     private static String words(List<Integer> facets) {
@@ -151,7 +170,9 @@ public final class ModelTest {
         compareFaces(x, m, at);
         compareSets(x, m, at);
         comparePlaces(x, m, at);
-        compareOrders(x, m, at);
+        if (m.facets.size() <= 7) {
+            compareOrders(x, m, at);
+        }
         compareShedding(x, m, at);
         for (int turns = 0; turns < 4; turns++) {
             int seed = random.nextInt(65537);
@@ -283,9 +304,6 @@ public final class ModelTest {
 
     private static void compareOrders(ShellPeel x, Model m, String at) {
         int n = m.facets.size();
-        if (n > 7) {
-            return;
-        }
         List<int[]> all = Model.shellingsOf(m.facets);
         CHECKS.due(at + " shellings()", x.shellings(), all.size());
         int peelable = 0;
