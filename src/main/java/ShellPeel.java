@@ -1565,7 +1565,7 @@ public final class ShellPeel {
         }
 
         // Each level goes by a POINT that all or none of those left have from there on.
-        boolean falls(Facets facets, int some, int depth) {
+        private boolean falls(Facets facets, int some, int depth) {
             if (Integer.bitCount(some) == 1) {
                 return true;
             }
@@ -1580,7 +1580,7 @@ public final class ShellPeel {
             return (falling[slot] & bit) != 0;
         }
 
-        int leastPoint(Facets facets, int some, int depth) {
+        private int leastPoint(Facets facets, int some, int depth) {
             if (depth > MOST_POINTS) {
                 return NEVER;
             }

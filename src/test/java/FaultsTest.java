@@ -60,6 +60,12 @@ public final class FaultsTest {
         fault(HEAD + ";facets ab", 1, 24);
         fault(HEAD + ";face ab", 1, 24);
         fault(HEAD + ";facet ab 2", 1, 33);
+        // Words that are as long as those that are due.
+        fault("domplex points 4 size 2;facet ab", 1, 0);
+        fault("complez points 4 size 2;facet ab", 1, 0);
+        fault("complex pounts 4 size 2;facet ab", 1, 8);
+        fault("complex points 4 sizf 2;facet ab", 1, 17);
+        fault(HEAD + ";faset ab", 1, 24);
     }
 
     private static void tokens() {
@@ -109,6 +115,9 @@ public final class FaultsTest {
         fault(HEAD + ";facet complex", 3, 30);
         fault(HEAD + ";facet   abc #", 3, 32);
         fault(HEAD + ";facet ab;facet aba", 3, 39);
+        fault("complex points 2 size 1;facet c", 3, 30);
+        fault("complex points 2 size 1;facet aa", 3, 30);
+        fault("complex points 2 size 1;facet ab", 3, 30);
     }
 
     private static void again() {

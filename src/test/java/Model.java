@@ -399,6 +399,45 @@ final class Model {
         return false;
     }
 
+    /** The sets (bits) of facets that can stand in a row, each with those that join it; -1 for a set that can't. */
+    int[] rowable() {
+        int[] next = new int[1 << facets.size()];
+        Arrays.fill(next, -1);
+        next[0] = 0;
+        for (int some = 0; some < next.length; some++) {
+            if (next[some] < 0) {
+                continue;
+            }
+            List<Integer> ahead = new ArrayList<>();
+            for (int i = 0; i < facets.size(); i++) {
+                if ((some >> i & 1) == 1) {
+                    ahead.add(facets.get(i));
+                }
+            }
+            for (int i = 0; i < facets.size(); i++) {
+                if ((some >> i & 1) == 0 && joins(facets.get(i), ahead)) {
+                    next[some] |= 1 << i;
+                    next[some | 1 << i] = Math.max(0, next[some | 1 << i]);
+                }
+            }
+        }
+        return next;
+    }
+
+    /** In how many ways each set that can stand in a row goes on to all facets. */
+    long[] onward(int[] rowable) {
+        long[] found = new long[rowable.length];
+        found[found.length - 1] = rowable[rowable.length - 1] < 0 ? 0 : 1;
+        for (int some = found.length - 2; some >= 0; some--) {
+            for (int i = 0; i < facets.size(); i++) {
+                if (rowable[some] >= 0 && (rowable[some] >> i & 1) == 1) {
+                    found[some] += found[some | 1 << i];
+                }
+            }
+        }
+        return found;
+    }
+
     int peeled(long seed) {
         List<Integer> left = new ArrayList<>(facets);
         while (left.size() > 1) {

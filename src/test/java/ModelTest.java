@@ -173,6 +173,7 @@ public final class ModelTest {
         if (m.facets.size() <= 7) {
             compareOrders(x, m, at);
         }
+        compareBySets(x, m, at);
         compareShedding(x, m, at);
         for (int turns = 0; turns < 4; turns++) {
             int seed = random.nextInt(65537);
@@ -319,6 +320,44 @@ public final class ModelTest {
         }
         CHECKS.due(at + " stuck()", x.stuck(), m.stuck(all));
         CHECKS.due(at + " obstruction()", x.obstruction(), m.obstruction());
+    }
+
+    /** All orders once more, by sets of facets, which goes for many facets too. */
+    private static void compareBySets(ShellPeel x, Model m, String at) {
+        int n = m.facets.size();
+        int[] rowable = m.rowable();
+        long[] onward = m.onward(rowable);
+        CHECKS.due(at + " shellings() by sets", x.shellings(), onward[0]);
+        int stuck = -2;
+        for (int some = 0; some < rowable.length; some++) {
+            if (rowable[some] >= 0 && onward[some] == 0 && (stuck < 0 || Model.many(some) < Model.many(stuck))) {
+                stuck = some;
+            }
+        }
+        CHECKS.due(at + " stuck() by sets", x.stuck(), stuck);
+        int peelable = 0;
+        for (int i = 0; i < n; i++) {
+            int others = rowable.length - 1 & ~(1 << i);
+            peelable |= rowable[others] >= 0 ? rowable[others] & 1 << i : 0;
+        }
+        CHECKS.due(at + " peelable() by sets", x.peelable(), peelable);
+        int begun = 0;
+        for (int place = 0; place < n; place++) {
+            int least = -2;
+            for (int i = n - 1; i >= 0 && onward[0] > 0; i--) {
+                least = (rowable[begun] >> i & 1) == 1 && onward[begun | 1 << i] > 0 ? i : least;
+            }
+            CHECKS.due(at + " shelled(" + place + ") by sets", x.shelled(place), least);
+            begun |= least < 0 ? 0 : 1 << least;
+        }
+        int ahead = 0;
+        boolean good = true;
+        for (int place = 0; place < n; place++) {
+            CHECKS.due(at + " goesOn(" + place + ") by sets", x.goesOn(place), good ? onward[ahead] : 0);
+            good &= m.joinsAt(place);
+            ahead |= 1 << m.order.get(place);
+        }
+        CHECKS.due(at + " goesOn(" + n + ") by sets", x.goesOn(n), good ? 1 : 0);
     }
 
     private static void compareShedding(ShellPeel x, Model m, String at) {

@@ -477,6 +477,9 @@ public final class PromisesTest {
         ShellPeel b = blocked();
         C.due("40 blocked", b, b.stuck(), 400, 0);
         C.due("40 lone", lone().stuck(), -2);
+        // 562 is less than 578, but has more facets; 2210 is the least of two that have as few.
+        C.due("40 fewest", Checks.made(6, 3, "cdf bcd cef ace abe abd bde acf adf bef").stuck(), 578);
+        C.due("40 of several the least", Checks.made(7, 3, "aeg acg ceg cfg abe afg abd adf bce bcd cde def").stuck(), 2210);
         // 400 is ace, cef, acd: each of them joins, and two of them go on, but not all three.
         b.move(4, 0);
         b.move(7, 1);
