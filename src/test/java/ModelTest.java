@@ -8,6 +8,8 @@ public final class ModelTest {
 
     public static void main(String[] args) {
         Random random = new Random(20261117);
+        // One object for many complexes: nothing of an earlier one may stay.
+        ShellPeel y = new ShellPeel();
         for (int round = 0; round < 260; round++) {
             int points = 1 + random.nextInt(7);
             int size = 1 + random.nextInt(Math.min(5, points));
@@ -19,7 +21,9 @@ public final class ModelTest {
                 String what = act(x, model, random);
                 compareLittle(x, model, "round " + round + " act " + act + " " + what);
             }
-            ShellPeel y = Checks.made(points, size, words(model.facets));
+            for (int told = 0; told < 2; told++) {
+                CHECKS.due("told again", Checks.tell(y, Checks.text(points, size, words(model.facets))), model.facets.size());
+            }
             for (int place = 0; place < model.order.size(); place++) {
                 int from = 0;
                 while (y.ordered(from) != model.order.get(place)) {
