@@ -13,6 +13,16 @@ final class Checks {
         }
     }
 
+    void due(String call, String got, String want) {
+        made++;
+        if (!got.equals(want)) {
+            wrong++;
+            if (wrong <= 50) {
+                System.out.println(call + " answered " + got + ", due is " + want);
+            }
+        }
+    }
+
     void due(String call, double got, double want) {
         made++;
         if (got != want) {
@@ -46,10 +56,14 @@ final class Checks {
 
     /** Feeds a text, padded with blanks to whole feeds. */
     static void feed(ShellPeel x, String text) {
+        feed(x, text, ' ');
+    }
+
+    static void feed(ShellPeel x, String text, char pad) {
         for (int from = 0; from < text.length(); from += 20) {
             int[] words = new int[5];
             for (int i = 0; i < 20; i++) {
-                int sign = from + i < text.length() ? text.charAt(from + i) : ' ';
+                int sign = from + i < text.length() ? text.charAt(from + i) : pad;
                 words[i / 4] |= (sign & 255) << (24 - 8 * (i % 4));
             }
             x.feed(words[0], words[1], words[2], words[3], words[4]);
