@@ -156,7 +156,7 @@ final class Bounds {
         }
         said.append(" told ").append(x.euler()).append(' ').append(x.good()).append(' ').append(x.unparted());
         said.append(' ').append(x.mean()).append(' ').append(x.swaps()).append(' ').append(x.linear());
-        said.append(' ').append(x.shellings()).append(' ').append(x.shelled(1)).append(' ').append(x.peelable());
+        said.append(' ').append(x.shellings()).append(' ').append(x.linkShellings(0)).append(' ').append(x.shelled(1)).append(' ').append(x.peelable());
         said.append(' ').append(x.stuck()).append(' ').append(x.even()).append(' ').append(x.obstruction());
         said.append(' ').append(x.fallsApart()).append(' ').append(x.shed()).append(' ').append(x.first());
         return said.toString();

@@ -56,6 +56,21 @@ public final class BoundsActsTest {
     }
 
     // Promise 50: "A FACET more (bits; the last one, last in THE ORDER): how many there are."
+    static void promise50BehindOnesThatWent() {
+        ShellPeel x = Samples.moved();
+        x.drop(0);
+        B.due("add(9)", x.add(9), 3);
+        B.dueRows("add(9)", x, "cd bc ad", "0 1 2");
+        ShellPeel y = Samples.full();
+        y.move(0, 11);
+        y.peel();
+        y.peel();
+        B.due("add(3)", y.add(3), 11);
+        B.due("add(96)", y.add(96), 12);
+        B.dueRows("add(96)", y, "ac ad ae af ag bc bd be bf bg ab fg", "0 1 2 3 4 5 6 7 8 9 10 11");
+    }
+
+    // Promise 50: "A FACET more (bits; the last one, last in THE ORDER): how many there are."
     static void promise50TheTwelfth() {
         ShellPeel x = acts("the twelfth: add(12)", BoundsActsTest::eleven, y -> y.add(12), 12,
             "ab ac ad ae af ag bc bd be bf bg cd", "0 1 2 3 4 5 6 7 8 9 10 11");
@@ -105,6 +120,7 @@ public final class BoundsActsTest {
         dueAsMade("drop(1)", acts("moved: drop(1)", Samples::moved, x -> x.drop(1), 2, "ab bc", "1 0"), 4, 2);
         dueAsMade("drop(0)", acts("moved: drop(0)", Samples::moved, x -> x.drop(0), 2, "cd bc", "0 1"), 4, 2);
         dueAsMade("drop(2)", acts("moved: drop(2)", Samples::moved, x -> x.drop(2), 2, "ab cd", "1 0"), 4, 2);
+        dueAsMade("what fell apart doesn't", acts("drop(1)", () -> Checks.made(4, 2, "ac ad bd"), x -> x.drop(1), 2, "ac bd", "0 1"), 4, 2);
         acts("down to one: drop(0)", BoundsActsTest::two, x -> x.drop(0), 1, "cde", "0");
         acts("down to one: drop(1)", BoundsActsTest::two, x -> x.drop(1), 1, "abc", "0");
         ShellPeel x = acts("full: drop(11)", Samples::full, y -> y.drop(11), 11,

@@ -52,6 +52,7 @@ public final class BoundsComplexTest {
     }
 
     // Promise 8: "Which FACETS a set lies in (bits; 0: it is no FACE)."
+    // Terms II: "Sets of POINTS are bits (a: 1, b: 2, ..), of FACETS, too (by numbers)."
     static void promise08TheEmptySetAndAllPoints() {
         B.tells("full: within(0)", Samples::full, x -> x.within(0), 4095);
         B.tells("full: within(127)", Samples::full, x -> x.within(127), 0);
@@ -91,6 +92,7 @@ public final class BoundsComplexTest {
 
     // Promise 10: "f of k (0 .. SIZE)."
     // Terms II: "FACES: sets of POINTS that lie in a FACET (the empty one, too)."
+    // Terms II: "f of k: how many FACES have k POINTS."
     static void promise10FromTheEmptyFaceToTheFacets() {
         B.row("point: faces", Samples::point, (x, k) -> x.faces(k), 1, 1);
         B.row("broad: faces", Samples::broad, (x, k) -> x.faces(k), 1, 7, 21, 35, 32, 12);
@@ -107,6 +109,7 @@ public final class BoundsComplexTest {
     }
 
     // Promise 11: "h of k (0 .. SIZE)."
+    // Terms II: "h of k: the sum over i from 0 to k of f of i, times the ways to choose k less i of SIZE less i, with a less ahead if k less i is odd."
     static void promise11FromOneToTheLast() {
         B.row("point: h", Samples::point, (x, k) -> x.h(k), 1, 0);
         B.row("broad: h", Samples::broad, (x, k) -> x.h(k), 1, 2, 3, 4, 2, 0);
@@ -140,6 +143,7 @@ public final class BoundsComplexTest {
 
     // Promise 13: "RANK of k (0 .. SIZE)."
     // Terms II: "1 where the one lies in the other (of 0: 0)."
+    // Terms II: "RANK of k: of a table by halves (1 and 1 is 0) with FACES of k POINTS down and of k less 1 along,"
     static void promise13OfNoPointsAndOfAll() {
         B.row("point: rank", Samples::point, (x, k) -> x.rank(k), 0, 1);
         B.row("broad: rank", Samples::broad, (x, k) -> x.rank(k), 0, 1, 6, 15, 20, 12);
@@ -177,6 +181,7 @@ public final class BoundsComplexTest {
 
     // Promise 15: "The FACET of THE DUAL for the i-th MISSING set."
     // Terms II: "a FACET for each MISSING set: all other POINTS (none, if nothing is MISSING)."
+    // Terms II: "THE DUAL: a COMPLEX (of FACETS of unlike sizes),"
     static void promise15AllOtherPoints() {
         B.row("broad: dual", Samples::broad, (x, i) -> x.dual(i), 65, 33, 19, 11, 7);
         B.row("idle: dual", Samples::idle, (x, i) -> x.dual(i), 11, 7);
@@ -213,6 +218,7 @@ public final class BoundsComplexTest {
     }
 
     // Promise 17: "FACETS (bits) that are NEAR a FACET."
+    // Terms II: "NEAR are two FACETS that have all POINTS but one in common."
     static void promise17NoneAndAll() {
         B.tells("point: near(0)", Samples::point, x -> x.near(0), 0);
         B.tells("bowtie: near(1)", Samples::bowtie, x -> x.near(1), 0);

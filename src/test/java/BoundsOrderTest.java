@@ -70,6 +70,7 @@ public final class BoundsOrderTest {
     }
 
     // Promise 21: "RESTRICTION of it (bits)."
+    // Terms II: "RESTRICTION of a FACET at its place: those of its POINTS without each of which alone it lies in one ahead."
     static void promise21FromNothingToAllOfIt() {
         B.row("point: restricted", Samples::point, (x, place) -> x.restricted(place), 0);
         B.row("sphere: restricted", Samples::sphere, (x, place) -> x.restricted(place), 0, 8, 12, 14);
@@ -114,6 +115,7 @@ public final class BoundsOrderTest {
     }
 
     // Promise 24: "The i-th place with a SPANNING FACET."
+    // Terms II: "SPANNING: a FACET whose RESTRICTION is all of it."
     static void promise24FirstAndLast() {
         B.row("full: spanning", Samples::full, (x, i) -> x.spanning(i), 6, 7, 8, 9, 10, 11);
         B.row("dots: spanning", Samples::dots, (x, i) -> x.spanning(i), 1, 2);
@@ -131,10 +133,20 @@ public final class BoundsOrderTest {
     }
 
     // Promise 25: "CYCLE of the i-th SPANNING FACET (bits, of FACETS);"
+    // Terms II: "A CYCLE of a SPANNING FACET: it and such FACETS that aren't SPANNING, so that each set of SIZE less 1 POINTS lies in an even number of them."
     static void promise25FirstAndLast() {
         B.row("full: cycle", Samples::full, (x, i) -> x.cycle(i), 67, 133, 265, 529, 1057, 2054);
         B.row("dots: cycle", Samples::dots, (x, i) -> x.cycle(i), 3, 5);
         B.row("all of them: cycle", Samples::fives, (x, i) -> x.cycle(i), 63);
+        // c comes first, then a and b: facets are told by numbers, spanning ones by places.
+        B.row("numbers, not places: cycle", BoundsOrderTest::turnedDots, (x, i) -> x.cycle(i), 5, 6);
+        B.row("numbers, not places: spanning", BoundsOrderTest::turnedDots, (x, i) -> x.spanning(i), 1, 2);
+    }
+
+    private static ShellPeel turnedDots() {
+        ShellPeel x = Samples.dots();
+        x.move(2, 0);
+        return x;
     }
 
     // Promise 25: "-2 THE ORDER is no SHELLING."
@@ -268,11 +280,15 @@ public final class BoundsOrderTest {
 
     // Promise 33: "How many LEAST LEAPS there are at a place."
     // Terms II: "LEAST ones: those in which no other one lies (each set once)."
+    // Terms II: "LEAPS at a place: what the FACET there has and one ahead has not, for each ahead;"
     static void promise33NoneAtTheFirstPlace() {
         B.row("point: leaps", Samples::point, (x, place) -> x.leaps(place), 0);
         B.row("path: leaps", Samples::path, (x, place) -> x.leaps(place), 0, 1, 2);
         B.row("each set once: leaps", Samples::dots, (x, place) -> x.leaps(place), 0, 1, 1);
         B.row("as many as points: leaps", Samples::fives, (x, place) -> x.leaps(place), 0, 1, 2, 3, 4, 5);
+        B.row("the least point: leaps", () -> Checks.made(3, 2, "bc ab"), (x, place) -> x.leaps(place), 0, 1);
+        B.row("the first one ahead takes another away: leaps", () -> Checks.made(5, 2, "ab cd ae"), (x, place) -> x.leaps(place), 0, 1, 1);
+        B.row("the last one ahead takes another away: leaps", () -> Checks.made(5, 2, "cd ab ae"), (x, place) -> x.leaps(place), 0, 1, 1);
         B.tells("ten pairs: leaps(10)", Samples::fan, x -> x.leaps(10), 10);
         B.tells("one point takes four pairs away: leaps(11)", BoundsOrderTest::closedFan, x -> x.leaps(11), 7);
         B.tells("full: leaps(11)", Samples::full, x -> x.leaps(11), 2);
@@ -297,6 +313,9 @@ public final class BoundsOrderTest {
         B.row("closed fan: leap(11, i)", BoundsOrderTest::closedFan, (x, i) -> x.leap(11, i), 3, 5, 6, 9, 10, 12, 16);
         B.row("fives: leap(5, i)", Samples::fives, (x, i) -> x.leap(5, i), 2, 4, 8, 16, 32);
         B.row("full: leap(11, i)", Samples::full, (x, i) -> x.leap(11, i), 4, 8);
+        B.row("the least point: leap(1, i)", () -> Checks.made(3, 2, "bc ab"), (x, i) -> x.leap(1, i), 1);
+        B.row("the greatest point: leap(1, i)", () -> Checks.made(7, 2, "ab ag"), (x, i) -> x.leap(1, i), 64);
+        B.row("the first one ahead takes another away: leap(2, i)", () -> Checks.made(5, 2, "ab cd ae"), (x, i) -> x.leap(2, i), 16);
         B.row("all of it: leap(1, i)", Samples::path, (x, i) -> x.leap(1, i), 12);
     }
 

@@ -31,6 +31,7 @@ public final class BoundsShellingsTest {
     }
 
     // Promise 36: "How many ORDERS of all FACETS are SHELLINGS."
+    // Terms II: "A SHELLING: an ORDER in which each FACET JOINS those ahead."
     static void promise36FromNoneToVeryMany() {
         B.tells("one facet: shellings()", Samples::point, x -> x.shellings(), 1);
         B.tells("none: shellings()", Samples::bowtie, x -> x.shellings(), 0);
@@ -153,6 +154,7 @@ public final class BoundsShellingsTest {
 
     // Promise 41: "How many FACETS are left when it is PEELED by DRAWS from a SEED (0 .. 65,536) on (nothing changes by that)."
     // Terms II: "as long as more than one FACET is left, and there are any that JOIN all others that are left, one of these, DRAWN, goes (by numbers)."
+    // Terms II: "TO PEEL by DRAWS:"
     static void promise41OneIsLeftOrNoneJoins() {
         B.tells("one facet: peeled(0)", Samples::point, x -> x.peeled(0), 1);
         B.tells("down to one: peeled(7)", Samples::fives, x -> x.peeled(7), 1);
@@ -172,6 +174,7 @@ public final class BoundsShellingsTest {
     }
 
     // Promise 42: "How many FACETS LINK of a FACE has."
+    // Terms II: "LINK of a FACE: the COMPLEX of all FACETS in which it lies, without its POINTS (SIZE is less by these)."
     static void promise42OfTheEmptyFaceAndOfAFacet() {
         B.tells("of the empty face: link(0)", Samples::full, x -> x.link(0), 12);
         B.tells("of a point: link(1)", Samples::full, x -> x.link(1), 6);
@@ -268,6 +271,7 @@ public final class BoundsShellingsTest {
 
     // Promise 47: "1 if the COMPLEX FALLS APART, 0."
     // Terms II: "A COMPLEX FALLS APART, if it has one FACET, or a POINT can be SHED, both that are left FALLING APART."
+    // Terms II: "then both LINK of it and the COMPLEX of FACETS without it are left."
     static void promise47OneFacetAndMore() {
         B.tells("one facet: fallsApart()", Samples::point, x -> x.fallsApart(), 1);
         B.tells("one facet, points beside it: fallsApart()", Samples::idle, x -> x.fallsApart(), 1);
@@ -306,6 +310,11 @@ public final class BoundsShellingsTest {
         B.tells("the last point: first()", () -> Checks.made(7, 2, "af ag"), x -> x.first(), 5);
         B.tells("not a, which all have: first()", () -> Checks.made(4, 2, "ab ac ad"), x -> x.first(), 1);
         B.tells("not b, which can be shed: first()", Samples::blocked, x -> x.first(), 2);
+        // Many sets of facets are left on the way here, and each must be looked at by itself.
+        B.tells("six facets: first()", () -> Checks.made(7, 3, "bef acf cdg acg abf cdf"), x -> x.first(), 3);
+        B.tells("six others: first()", () -> Checks.made(6, 3, "bce ace ade acd bcd def"), x -> x.first(), 1);
+        B.tells("nine facets: first()", () -> Checks.made(7, 3, "bdg def deg afg aef cfg ade adg bde"), x -> x.first(), 1);
+        B.tells("ten facets: first()", () -> Checks.made(7, 3, "bfg abd abc acf adf cfg bce abe bcf bef"), x -> x.first(), 3);
         B.tells("one facet, which falls apart: first()", Samples::point, x -> x.first(), -2);
         B.tells("none can be shed: first()", Samples::bowtie, x -> x.first(), -2);
         B.tells("one can be, but nothing falls: first()", Samples::firm, x -> x.first(), -2);

@@ -223,6 +223,12 @@ public final class BoundsTapeTest {
         B.due("and back", Checks.tell(x, Checks.text(7, 5, "abcde")), 1);
         B.due("within(31)", x.within(31), 1);
         B.due("within(127)", x.within(127), 0);
+        ShellPeel y = Samples.bowtie();
+        Bounds.state(y);
+        B.due("as many facets: complex()", Checks.tell(y, Checks.text(5, 3, "abc abd")), 2);
+        B.checks.due("as a new one", Bounds.state(y), Bounds.state(Checks.made(5, 3, "abc abd")));
+        B.due("and back: complex()", Checks.tell(y, Checks.text(5, 3, "abc cde")), 2);
+        B.checks.due("as a new one", Bounds.state(y), Bounds.state(Samples.bowtie()));
     }
 
     // Promise 3: "NONE: 2 (n; THE TAPE stays);"
@@ -277,6 +283,9 @@ public final class BoundsTapeTest {
         B.due("the tape is empty then", x.size(), 0);
         B.due("and nothing to read: complex(1)", x.complex(1), NONE);
         B.due("trouble() then", x.trouble(), 2);
+        Checks.feed(x, "   " + PATH);
+        B.due("complex(0), a blank first", x.complex(0), NONE);
+        B.due("where() then", x.where(), 0);
     }
 
     // Promise 4: "The FAULT of the latest complex() not refused by 2; 0 without one."
@@ -410,7 +419,7 @@ public final class BoundsTapeTest {
     }
 
     // Promise 58: "TROUBLE."
-    // Terms III: "TROUBLE of the latest call that may be refused (those of which a number is told here)"
+    // Terms III: "TROUBLE of the latest call that may be refused (those of which a number is told here):"
     static void promise58EveryCallThatMayBeRefusedTellsIt() {
         needing().forEach((name, call) -> {
             ShellPeel x = new ShellPeel();
@@ -425,7 +434,7 @@ public final class BoundsTapeTest {
     }
 
     // Promise 58: "TROUBLE."
-    // Terms III: "TROUBLE of the latest call that may be refused (those of which a number is told here)"
+    // Terms III: "TROUBLE of the latest call that may be refused (those of which a number is told here):"
     static void promise58AnAnswerOfLessThanNoneIsNoRefusal() {
         B.tells("apart(0, 1), never", Samples::bowtie, x -> x.apart(0, 1), -2);
         B.tells("cell(9), no face", Samples::bowtie, x -> x.cell(9), -2);
@@ -434,6 +443,33 @@ public final class BoundsTapeTest {
         B.tells("stuck(), none", Samples::sphere, x -> x.stuck(), -2);
         B.tells("obstruction(), none", Samples::sphere, x -> x.obstruction(), -2);
         B.tells("first(), none", Samples::bowtie, x -> x.first(), -2);
+    }
+
+    // The constants: "`NONE = -1`: There is none; refused."
+    static void theConstant() {
+        B.due("NONE", ShellPeel.NONE, -1);
+        B.refuses("refused: facet(3)", Samples::path, x -> x.facet(3), -1, 1);
+    }
+
+    // What it is: "An object is used for at most 512 calls after it has been made; what later calls answer is free."
+    static void theLastOfTheCalls() {
+        ShellPeel x = new ShellPeel();
+        Checks.feed(x, PATH);
+        B.due("the 4th call: complex(50)", x.complex(50), 3);
+        for (int calls = 4; calls < 512; calls += 4) {
+            B.due("behind " + calls + " calls: add(9)", x.add(9), 4);
+            B.due("behind " + calls + " calls: shellings()", x.shellings(), 16);
+            B.due("behind " + calls + " calls: drop(3)", x.drop(3), 3);
+            B.due("behind " + calls + " calls: shellings()", x.shellings(), 4);
+        }
+        ShellPeel y = new ShellPeel();
+        for (int calls = 0; calls < 510; calls += 3) {
+            B.due("behind " + calls + " calls: feed()", y.feed(calls, 0, 0, 0, 0), 20);
+            B.due("behind " + calls + " calls: complex(20)", y.complex(20), NONE);
+            B.due("behind " + calls + " calls: where()", y.where(), 0);
+        }
+        B.due("the 511th call: fault()", y.fault(), 1);
+        B.due("the 512th call: trouble()", y.trouble(), 4);
     }
 
     // Terms III: "Refusals are met in the order in which a call tells them."

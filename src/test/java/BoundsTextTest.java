@@ -40,7 +40,7 @@ public final class BoundsTextTest {
         return x;
     }
 
-    // Terms I: "blanks, 32, part TOKENS and mean nothing else"
+    // Terms I: "blanks, 32, part TOKENS and mean nothing else;"
     static void blanksPartTokens() {
         told("   complex   points   4   size   2   ;   facet   ab   ;   facet   cd   ", "ab cd");
         told("complex points4size2;facet ab", "ab");
@@ -54,7 +54,7 @@ public final class BoundsTextTest {
         faulty("complex points 4 size 1 2", 1, 24);
     }
 
-    // Terms I: "blanks, 32, part TOKENS and mean nothing else"
+    // Terms I: "blanks, 32, part TOKENS and mean nothing else;"
     static void noOtherByteIsABlank() {
         for (int sign : new int[] {0, 9, 10, 11, 13, 31, 33, 95, 127, 128, 160, 255}) {
             faulty("complex" + (char) sign + "points 4 size 2;facet ab", 1, 7);
@@ -63,7 +63,7 @@ public final class BoundsTextTest {
         }
     }
 
-    // Terms I: "WORDS of 1 to 7 small letters that stand together"
+    // Terms I: "TOKENS: WORDS of 1 to 7 small letters that stand together,"
     static void wordsOfOneToSevenLetters() {
         told("complex points 7 size 1;facet g", "g");
         faulty("complex points 7 size 5;facet abcdefg", 3, 30);
@@ -74,7 +74,7 @@ public final class BoundsTextTest {
         faulty("c", 1, 0);
     }
 
-    // Terms I: "WORDS of 1 to 7 small letters that stand together"
+    // Terms I: "TOKENS: WORDS of 1 to 7 small letters that stand together,"
     static void lettersAreSmallOnes() {
         faulty("Complex points 4 size 2", 1, 0);
         faulty(HEAD + ";facet `a", 1, 30);
@@ -87,7 +87,7 @@ public final class BoundsTextTest {
         faulty(HEAD + ";facet " + (char) ('a' + 128) + "b", 1, 30);
     }
 
-    // Terms I: "WHOLES of 1 or 2 digits that do"
+    // Terms I: "WHOLES of 1 or 2 digits that do,"
     static void wholesOfOneOrTwoDigits() {
         told("complex points 04 size 02;facet ab", "ab");
         told("complex points 07 size 5;facet cdefg", "cdefg");
@@ -103,7 +103,7 @@ public final class BoundsTextTest {
         faulty("complex points 4.0 size 1", 1, 16);
     }
 
-    // Terms I: "single ones of ;): LINE {; LINE}."
+    // Terms I: "single ones of ;): LINE {; LINE}. LINE, one of:"
     static void semicolonsStandBetweenLines() {
         told(HEAD + ";facet ab;facet cd", "ab cd");
         faulty(";", 1, 0);
@@ -171,7 +171,7 @@ public final class BoundsTextTest {
         told(TWELVE, "ab ac ad ae af ag bc bd be bf bg cd");
     }
 
-    // Terms I: "FAULTS, the first that is met from the left, of one place the least number"
+    // Terms I: "FAULTS, the first that is met from the left, of one place the least number:"
     static void theFirstFromTheLeft() {
         faulty("complex points 8 size 9;facet #", 2, 15);
         faulty("complex points 4 size 9;#", 2, 22);
@@ -184,7 +184,7 @@ public final class BoundsTextTest {
         faulty(HEAD + ";complex #", 4, 24);
     }
 
-    // Terms I: "FAULTS, the first that is met from the left, of one place the least number"
+    // Terms I: "FAULTS, the first that is met from the left, of one place the least number:"
     static void ofOnePlaceTheLeast() {
         // An end without a facet where a line is due, a whole out of bounds where none is due, too long a word that is odd, too.
         faulty("", 1, 0);
@@ -219,6 +219,15 @@ public final class BoundsTextTest {
         faulty(HEAD + ";facet ab 2", 1, 33);
         faulty(HEAD + ";facets ab", 1, 24);
         faulty(HEAD + ";face ab", 1, 24);
+        // Words that differ from those that are due by the first or the last letter.
+        faulty("domplex points 4 size 2;facet ab", 1, 0);
+        faulty("compley points 4 size 2;facet ab", 1, 0);
+        faulty("complex qoints 4 size 2;facet ab", 1, 8);
+        faulty("complex pointt 4 size 2;facet ab", 1, 8);
+        faulty("complex points 4 tize 2;facet ab", 1, 17);
+        faulty("complex points 4 sizf 2;facet ab", 1, 17);
+        faulty(HEAD + ";gacet ab", 1, 24);
+        faulty(HEAD + ";faceu ab", 1, 24);
     }
 
     // Terms I: "1 FORM: the first byte that begins no TOKEN, or TOKEN with which no COMPLEX goes on (the end: its place)."
@@ -271,6 +280,8 @@ public final class BoundsTextTest {
         faulty(HEAD + ";  complex points 4 size 2", 4, 26);
         faulty(HEAD + ";facet ab;complex points 9 size 2", 4, 33);
         faulty(TWELVE + ";complex", 4, TWELVE.length() + 1);
+        faulty("complex points 1 size 1;complex points 2 size 1;facet a", 4, 24);
+        faulty("complex points 1 size 1;facet a;facet a", 4, 38);
         String eleven = TWELVE.substring(0, TWELVE.length() - 2);
         faulty(eleven + "ba", 4, eleven.length());
         faulty(eleven + "gb", 4, eleven.length());
@@ -299,7 +310,7 @@ public final class BoundsTextTest {
         faulty("complex points 1 size 1", 6, 23);
     }
 
-    // Terms I: "THE TAPE has 200 bytes"
+    // Terms I: "THE TEXT of a COMPLEX (THE TAPE has 200 bytes;"
     static void aTextAsLongAsTheTape() {
         StringBuilder text = new StringBuilder("complex points 7 size 5");
         String[] words = "abcde abcdf abcdg abcef abceg abcfg abdef abdeg abdfg abefg acdef acdeg".split(" ");

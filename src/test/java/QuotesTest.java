@@ -10,11 +10,11 @@ import java.util.regex.Pattern;
 
 /**
  * The remarks above the boundary tests: each test has one, each says the document's own words, and together they
- * say every word of every promise.
+ * say every word of every promise and of the Terms.
  */
 public final class QuotesTest {
     private static final Checks C = new Checks();
-    private static final Pattern REMARK = Pattern.compile(" {4}// (Promise \\d+|Terms I{1,3}): \"(.*)\"");
+    private static final Pattern REMARK = Pattern.compile(" {4}// (Promise \\d+|Terms I{1,3}|What it is|The constants): \"(.*)\"");
     private static final Pattern TEST = Pattern.compile(" {4}static void (\\w+)\\(\\) \\{");
 
     public static void main(String[] args) throws Exception {
@@ -30,8 +30,8 @@ public final class QuotesTest {
             C.due(part + " says \"" + quote + "\"", parts.getOrDefault(part, "").contains(quote) ? 1 : 0, 1)));
         int promises = 0;
         for (Map.Entry<String, String> part : parts.entrySet()) {
-            if (part.getKey().startsWith("Promise ")) {
-                promises++;
+            promises += part.getKey().startsWith("Promise ") ? 1 : 0;
+            if (!part.getKey().equals("What it is")) {
                 C.due(part.getKey() + ", no remark says", unsaid(part.getValue(), quotes.get(part.getKey())), "");
             }
         }
@@ -48,7 +48,11 @@ public final class QuotesTest {
         }
         Matcher term = Pattern.compile("(?sm)^(I{1,3})\\. (.*?)(?=^I{1,3}\\. |^The constants)").matcher(document);
         while (term.find()) {
-            parts.put("Terms " + term.group(1), term.group(2));
+            parts.put("Terms " + term.group(1), term.group(2).replaceAll("```(text)?", ""));
+        }
+        Matcher rest = Pattern.compile("(?s)## (What it is)\n(.*?)\n## |(The constants): (.*?)\n").matcher(document);
+        while (rest.find()) {
+            parts.put(rest.group(1) == null ? rest.group(3) : rest.group(1), rest.group(1) == null ? rest.group(4) : rest.group(2));
         }
         return parts;
     }
