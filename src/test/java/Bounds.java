@@ -143,7 +143,7 @@ final class Bounds {
 
     // ---- what can be seen of an object
 
-    /** All that can be seen but TROUBLE, where() and the bytes on THE TAPE. */
+    /** FACETS, ORDER and answers that follow from them; not TROUBLE, where() and the bytes on THE TAPE. */
     static String state(ShellPeel x) {
         StringBuilder said = new StringBuilder();
         said.append(x.size()).append(' ').append(x.fault()).append(" about");
